@@ -231,10 +231,13 @@ public final class KindJudge {
         final Flow flow;
 
         Book() {
-            bytes = new Bytes();
-            layout = new Layout(bytes);
-            code = new Code(bytes, layout);
-            flow = new Flow(layout, code);
+            Bytes row = new Bytes();
+            Layout parts = new Layout(row);
+            Code instructions = new Code(row, parts);
+            bytes = row;
+            layout = parts;
+            code = instructions;
+            flow = new Flow(parts, instructions);
         }
     }
 
@@ -476,6 +479,7 @@ public final class KindJudge {
     /** The parts of a FILE, and where in it the CODE of each METHOD is. */
     private static final class Layout {
         static final int MOST_SELECTORS = 8;
+        static final int MOST_OF_SELECTOR = 3;
         static final int MOST_LOCALS = 8;
         static final int MOST_STACK = 8;
         static final int MOST_CODE = 120;
@@ -500,7 +504,7 @@ public final class KindJudge {
             classes.read(reader);
             selectors.readNumber(reader, 0, MOST_SELECTORS);
             for (int s = 0; s < selectors.number && reader.goesOn(); s++) {
-                selectors.readOne(reader, s, 3, classes.number);
+                selectors.readOne(reader, s, MOST_OF_SELECTOR, classes.number);
             }
             methods.readNumber(reader, 1, Signatures.MOST);
             for (int m = 0; m < methods.number && reader.goesOn(); m++) {
@@ -781,7 +785,8 @@ public final class KindJudge {
         static final int STACK = 8;
 
         private static final int CLASH = 99;
-        // Each PLACE changes at most some 200 times (16 KINDS, each ever wider), and a round changes one.
+        // Far above need: every round but the last goes on from a change, and each of 120 PLACES changes
+        // some 200 times at most, as each of its 16 KINDS only ever becomes wider.
         private static final int MOST_ROUNDS = 1000000;
 
         private final Layout layout;

@@ -6,6 +6,7 @@ public final class ReferenceTests {
 
     private final int[] faults = new int[4];
     private int clashes;
+    private Reference lastGood;
 
     private void one(long seed, KindJudge judge, byte[] file) {
         Reference due = new Reference(file);
@@ -15,8 +16,12 @@ public final class ReferenceTests {
         Check.due(what + " load", loaded, due.fault[0] == 0 ? due.methods.size() : Check.THROWN);
         Check.fault(what, judge, due.fault[0], due.fault[1], due.fault[2]);
         if (due.fault[0] == 0) {
+            lastGood = due;
             answers(what, judge, due);
-        } else if (due.fault[0] == 3) {
+        } else if (lastGood != null && seed % 4 == 0) {
+            answers(what + " fails, of the one ahead of it", judge, lastGood);
+        }
+        if (due.fault[0] == 3) {
             clashes += due.methods.get(due.fault[2]).states.get(due.fault[1]).stack == null ? 1 : 0;
         }
     }
@@ -108,6 +113,7 @@ public final class ReferenceTests {
         for (int seed = 0; seed < FILES; seed++) {
             if (seed % 3 == 0) {
                 judge = new KindJudge();
+                tests.lastGood = null;
             }
             byte[] file = new FileGuesser(seed).file();
             if (file.length <= 1500) {
