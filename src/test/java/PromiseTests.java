@@ -148,12 +148,11 @@ public final class PromiseTests {
 
     private static void kinds() {
         KindJudge judge = loaded();
-        int[] begin = {17, 18, 0, 0, 0, 0};
         // ways come back to 0, where LOCAL 3 and 4 were NO at the beginning
         int[] atZero = {17, 18, 1, 0, 0, 0};
         int[] afterNull = {17, 18, 1, 3, 0, 0};
         int[] atJoin = {17, 18, 1, 17, 0, 0};
-        for (int i = 0; i < begin.length; i++) {
+        for (int i = 0; i < atZero.length; i++) {
             Check.due("5 at 0 " + i, judge.kind(4, 0, i), atZero[i]);
             Check.due("5 at 3 " + i, judge.kind(4, 3, i), afterNull[i]);
             Check.due("5 at 17 " + i, judge.kind(4, 17, i), atJoin[i]);
