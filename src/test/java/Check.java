@@ -1,9 +1,14 @@
+import java.lang.reflect.InvocationTargetException;
+import java.lang.reflect.Method;
+import java.util.Map;
 import java.util.NoSuchElementException;
+import java.util.TreeMap;
 
 /** Counts the answers that are not as due, and calls what may throw. */
 final class Check {
     static final int THROWN = Integer.MIN_VALUE;
 
+    private static String test = "";
     private static int calls;
     private static int wrong;
 
@@ -14,7 +19,7 @@ final class Check {
         calls++;
         if (got != want) {
             wrong++;
-            System.out.println(what + " answered " + got + ", due is " + want);
+            System.out.println(test + what + " answered " + got + ", due is " + want);
         }
     }
 
@@ -68,6 +73,38 @@ final class Check {
         due(what + ": load() throws", answer == THROWN, kind != 0);
         fault(what, judge, kind, place, method);
         return judge;
+    }
+
+    static KindJudge good(String what, byte[] file) {
+        return loads(what, file, 0, 0, 0);
+    }
+
+    /** Runs every test of a class, its static methods without parameters, by their names, and ends. */
+    static void all(Class<?> tests) {
+        Map<String, Method> byName = new TreeMap<>();
+        for (Method method : tests.getDeclaredMethods()) {
+            if (method.getParameterCount() == 0 && method.getReturnType() == void.class) {
+                byName.put(method.getName(), method);
+            }
+        }
+        for (Method method : byName.values()) {
+            run(method);
+        }
+        end();
+    }
+
+    private static void run(Method method) {
+        int before = calls;
+        test = method.getName() + ": ";
+        try {
+            method.invoke(null);
+        } catch (InvocationTargetException e) {
+            due("threw " + e.getCause(), true, false);
+        } catch (IllegalAccessException e) {
+            due("can't be called", true, false);
+        }
+        due("looks at an answer", calls > before, true);
+        test = "";
     }
 
     static void end() {
