@@ -208,7 +208,8 @@ public final class AnswerEdgeTests {
     /** Promise 6: "NoSuchElementException: there is none such" */
     static void noSuchInstruction() {
         KindJudge judge = Family.loaded();
-        int[][] none = {{4, 2}, {4, 4}, {4, 18}, {4, 19}, {4, 26}, {4, 29}, {4, 30}, {0, 1}, {5, 11}, {5, 120}, {6, 0}, {7, 0}, {16, 0}};
+        int[][] none = {{4, 2}, {4, 4}, {4, 18}, {4, 19}, {4, 26}, {4, 29}, {4, 30}, {0, 1}, {5, 11}, {5, 120},
+            {6, 0}, {7, 0}, {16, 0}};
         for (int what = 0; what <= 5; what++) {
             for (int[] row : none) {
                 Check.due("look(" + row[0] + ", " + row[1] + ", " + what + ")",

@@ -5,6 +5,8 @@ import java.util.Random;
 /** Makes FILES by chance, the same ones each time: most of them nearly good, some good, some spoilt. */
 final class FileGuesser {
     private final Random random;
+    // Up to as many of all as there may be, and high STACKS, in one FILE of six.
+    private boolean large;
     private int classes;
     private final List<Integer> supers = new ArrayList<>();
     private final List<List<Integer>> fields = new ArrayList<>();
@@ -38,11 +40,12 @@ final class FileGuesser {
         selectors.clear();
         methods.clear();
         FileMaker maker = new FileMaker();
-        classes = upTo(5);
+        large = upTo(5) == 0;
+        classes = upTo(large ? 8 : 5);
         for (int c = 0; c < classes; c++) {
             int parent = upTo(c) - 1;
             List<Integer> all = parent < 0 ? new ArrayList<>() : new ArrayList<>(fields.get(parent));
-            int[] own = someTypes(Math.min(2, 8 - all.size()));
+            int[] own = someTypes(Math.min(large ? 4 : 2, 8 - all.size()));
             for (int t : own) {
                 all.add(t);
             }
@@ -50,14 +53,14 @@ final class FileGuesser {
             fields.add(all);
             maker.type(parent, own);
         }
-        int count = upTo(3);
+        int count = upTo(large ? 8 : 3);
         for (int s = 0; s < count; s++) {
-            int[] parameters = someTypes(2);
+            int[] parameters = someTypes(large ? 3 : 2);
             int returned = upTo(2) == 0 ? 0 : someType();
             selectors.add(FileMaker.join(new int[] {returned}, parameters));
             maker.selector(returned, parameters);
         }
-        count = 1 + upTo(4);
+        count = 1 + upTo(large ? 15 : 4);
         for (int m = 0; m < count; m++) {
             methods.add(someSignature());
         }
@@ -146,7 +149,8 @@ final class FileGuesser {
         for (int i = 0; i < more; i++) {
             locals.add(0);
         }
-        int wanted = 1 + upTo(upTo(3) == 0 ? 100 : 30);
+        // Of many METHODS each is short: the longer one is, the likelier it has a FAULT.
+        int wanted = 1 + upTo(methods.size() > 5 ? 4 : upTo(3) == 0 ? 100 : 30);
         while (code.size() < wanted) {
             begin();
             step();
@@ -205,7 +209,8 @@ final class FileGuesser {
             add(upTo(53));
             return;
         }
-        if (stack.size() > 6 || !stack.isEmpty() && upTo(2) > 0) {
+        boolean high = large && stack.size() > 3;
+        if (stack.size() > (large ? 7 : 6) || !stack.isEmpty() && upTo(high ? 1 : 2) > 0) {
             take();
         } else {
             give();
@@ -320,7 +325,7 @@ final class FileGuesser {
             jump();
         } else if (choice == 3) {
             pop();
-            int n = 1 + upTo(3);
+            int n = 1 + upTo(large ? 7 : 3);
             add(53, n);
             for (int i = 0; i <= n; i++) {
                 jump();

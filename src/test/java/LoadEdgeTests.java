@@ -4,7 +4,8 @@ import java.util.Arrays;
 public final class LoadEdgeTests {
     private static final int NONE = KindJudge.NONE;
     private static final int MOST = 1500;
-    private static final int[] FAR = {Integer.MIN_VALUE, Integer.MIN_VALUE + 1, -256, -8, -1, Integer.MAX_VALUE - 1, Integer.MAX_VALUE};
+    private static final int[] FAR = {
+        Integer.MIN_VALUE, Integer.MIN_VALUE + 1, -256, -8, -1, Integer.MAX_VALUE - 1, Integer.MAX_VALUE};
 
     /** A FILE of one METHOD that returns at once. */
     private static final byte[] SMALLEST = {0, 0, 1, 0, 0, 0, 0, 1, 49};

@@ -46,7 +46,10 @@ public final class WayEdgeTests {
         }
     }
 
-    /** Promise 5 (VERIFYING): "Before an INSTRUCTION that may be come to, the LOCALS and the STACK have KINDS" (8 and 8 at once) */
+    /**
+     * Promise 5 (VERIFYING): "Before an INSTRUCTION that may be come to, the LOCALS and the STACK have KINDS"
+     * (8 and 8 at once)
+     */
     static void allLocalsAndAFullStack() {
         int[] code = {2, 4, 4, 52, 4, 5, 3, 1, 4, 6, 3, 3, 4, 7};
         for (int l = 0; l < 8; l++) {
